@@ -383,6 +383,9 @@ public final class FoundFirst {
     /** The query's marks are gathered once for all pairs, since they do not hang on weights. */
     private void addWorthOfPairs(int query, int a, int b) {
         ranking.gather(told, query);
+        if (!ranking.isGraded) {
+            return;
+        }
         System.arraycopy(told.weights.current, 0, tried, 0, MARKS);
         for (int i = 0; i < sums.length; i++) {
             tried[a] = i / WEIGHT_VALUES;
@@ -394,6 +397,9 @@ public final class FoundFirst {
 
     private void addWorthOfChanges(int query) {
         ranking.gather(told, query);
+        if (!ranking.isGraded) {
+            return;
+        }
         System.arraycopy(told.weights.current, 0, tried, 0, MARKS);
         for (int change = 0; change < 2 * MARKS; change++) {
             int value = valueAfter(change);
@@ -753,6 +759,8 @@ public final class FoundFirst {
     /** The order of one query's finds, in rows that every call uses again. */
     private static final class Ranking {
         int count = 0;
+        // Without a grade no order is worth anything, so that none need be tried.
+        boolean isGraded = false;
         private int pinned = 0;
         private int others = 0;
         final int[] order = new int[MOST_PAGES];
@@ -768,6 +776,7 @@ public final class FoundFirst {
         void gather(Told told, int query) {
             Arrays.fill(standing, NONE);
             count = 0;
+            isGraded = false;
             long asked = told.queries.asked[query];
             for (int p = 0; p < told.pages.count; p++) {
                 if (told.pages.isFind(p, asked)) {
@@ -790,6 +799,7 @@ public final class FoundFirst {
             standing[page] = FREE;
             kinds[page] = told.pages.kinds[page];
             grades[page] = told.queries.grades[query * MOST_PAGES + page];
+            isGraded |= grades[page] > 0;
             for (int m = 0; m < MARKS; m++) {
                 marks[page * MARKS + m] = told.pages.markOf(page, told.queries.asked[query], m);
             }

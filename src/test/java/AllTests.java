@@ -8,6 +8,7 @@ public final class AllTests {
         TuningTest.run(check);
         MixingTest.run(check);
         ImagesTest.run(check);
+        FullHouseTest.run(check);
         RandomRunsTest.run(check);
         LanguageTest.run(check, args.length > 0 ? args[0] : "src/main/java/FoundFirst.java");
         System.out.println("answers: " + check.passed() + " as due, " + check.failed() + " not");

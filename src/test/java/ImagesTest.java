@@ -7,6 +7,8 @@ final class ImagesTest {
         image(check);
         again(check);
         imagesHoldAllThatIsTold(check);
+        imagesHoldRowsWrittenOver(check);
+        imagesHoldTheTrial(check);
         imagesStay(check);
     }
 
@@ -143,6 +145,50 @@ final class ImagesTest {
         check.due("keep()", 2, house.keep());
         house.back(0);
         Given.weightsAre(check, house, 1, 1, 1, 1, 1);
+    }
+
+    private static void imagesHoldRowsWrittenOver(Check check) {
+        FoundFirst house = new FoundFirst();
+        house.image(0);
+        house.page(0, 0, 0);
+        Given.words(house, 0, 1, 0, 9, 9, 1);
+        house.query(3, false);
+        house.weight(1, 7);
+        house.keep();
+        house.image(1);
+        house.again(0);
+        house.page(1, 50, 50);
+        Given.words(house, 0, 1, 1, 0, 9, 9);
+        house.query(8, false);
+        house.keep();
+        house.again(1);
+        check.due("finds(0) of the image's query", 1, house.finds(0));
+        check.due("nearness by the image's row", 6, house.why(0, 0, 2));
+        check.due("fresh of the image's page", 10, house.why(0, 0, 3));
+        house.weight(1, 9);
+        house.back(0);
+        check.due("now(1) by the image's version", 7, house.now(1));
+    }
+
+    private static void imagesHoldTheTrial(Check check) {
+        FoundFirst house = Given.freshAgainstSeen();
+        house.query(2, false);
+        house.keep();
+        house.keep();
+        house.mix(0, 0, 1, 1);
+        house.click(0);
+        house.image(0);
+        house.mix(1, 0, 1, 1);
+        house.again(0);
+        check.due("the image's list", 0, house.mixed(0, 0));
+        check.due("the image's list, to its end", 1, house.mixed(1, 0));
+        int[][] others = {{0, 0}, {1, 1}};
+        for (int[] versions : others) {
+            house.mix(0, versions[0], versions[1], 1);
+            house.again(0);
+            house.mix(0, 0, 1, 1);
+            check.due("clicks go on by the image's versions", 1, house.trial(0));
+        }
     }
 
     private static void imagesStay(Check check) {

@@ -143,6 +143,8 @@ final class OrderTest {
         house.rule(0, 0, 1);
         check.due("score of one pinned", 20 + 6 + 35 + 42 + 33, house.why(0, 0, 5));
         check.due("score of one sunk", 6 + 40 + 70, house.why(0, 2, 5));
+        house.weight(0, 19);
+        check.due("score of one pinned by other weights", 19 + 6 + 35 + 42 + 33, house.why(0, 0, 5));
         check.due("pinned", 1, house.why(0, 0, 7));
         check.due("sunk", 2, house.why(0, 2, 7));
         check.due("place of one sunk", 1, house.why(0, 2, 6));

@@ -9,6 +9,7 @@ final class PagesTest {
         word(check);
         wordsStandInTheirRow(check);
         renew(check);
+        renewIsOfOnePage(check);
         renewForgetsWhatWasTold(check);
         renewMakesRoomForRules(check);
     }
@@ -131,6 +132,22 @@ final class PagesTest {
         check.due("fresh", 0, house.why(0, 0, 3));
         check.due("seen", 4, house.why(0, 0, 4));
         check.yes("renew(0, 0, 0)", house.renew(0, 0, 0));
+    }
+
+    private static void renewIsOfOnePage(Check check) {
+        FoundFirst house = new FoundFirst();
+        for (int p = 0; p < 4; p++) {
+            house.page(0, 0, 0);
+            Given.words(house, p, 0, 0, 0);
+            Given.words(house, p, 1, 0, 0, 0);
+        }
+        house.query(1, false);
+        house.renew(2, 0, 0);
+        check.due("finds(0)", 3, house.finds(0));
+        for (int p = 0; p < 4; p++) {
+            check.due("word(" + p + ", 0, 1)", p == 2 ? 1 : 3, house.word(p, 0, 1));
+            check.due("word(" + p + ", 1, 1)", p == 2 ? 1 : 4, house.word(p, 1, 1));
+        }
     }
 
     private static void renewForgetsWhatWasTold(Check check) {

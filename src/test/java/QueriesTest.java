@@ -11,6 +11,7 @@ final class QueriesTest {
         rule(check);
         ruleOfWhatIsNoFind(check);
         ruleLimit(check);
+        ruleLimitOfAllQueries(check);
         ruleIsForItsQuery(check);
         grade(check);
     }
@@ -166,6 +167,21 @@ final class QueriesTest {
         check.yes("one of 20 taken back", house.rule(0, 0, 0));
         check.yes("another in its stead", house.rule(0, 20, 1));
         check.no("one too much again", house.rule(0, 21, 1));
+    }
+
+    private static void ruleLimitOfAllQueries(Check check) {
+        FoundFirst house = new FoundFirst();
+        house.page(0, 0, 0);
+        house.page(0, 0, 0);
+        house.page(0, 0, 0);
+        for (int q = 0; q < 11; q++) {
+            house.query(1, false);
+        }
+        for (int q = 1; q < 11; q++) {
+            check.yes("a pin for query " + q, house.rule(q, 1, 1));
+            check.yes("a sunk one for query " + q, house.rule(q, 2, 2));
+        }
+        check.no("a 21st", house.rule(0, 1, 1));
     }
 
     private static void ruleIsForItsQuery(Check check) {

@@ -8,6 +8,13 @@ public final class AllTests {
         TuningTest.run(check);
         MixingTest.run(check);
         ImagesTest.run(check);
+        FindTermsTest.run(check);
+        OrderTermsTest.run(check);
+        TuningTermsTest.run(check);
+        MixTermsTest.run(check);
+        ImageTermsTest.run(check);
+        LastOnesTest.run(check);
+        RefusalsTest.run(check);
         FullHouseTest.run(check);
         RandomRunsTest.run(check);
         LanguageTest.run(check, args.length > 0 ? args[0] : "src/main/java/FoundFirst.java");

@@ -194,14 +194,15 @@ final class MixingTest {
 
     private static void sure(Check check) {
         check.promise("25 sure");
-        FoundFirst house = new FoundFirst();
         for (int n = 0; n <= 55; n++) {
+            FoundFirst house = new FoundFirst();
             for (int x = 0; x <= n; x++) {
                 check.due("sure(" + x + ", " + n + ")", isSure(x, n) ? 1 : 0, house.sure(x, n) ? 1 : 0);
             }
             check.no("sure(-1, " + n + ")", house.sure(-1, n));
             check.no("sure(n + 1, " + n + ")", house.sure(n + 1, n));
         }
+        FoundFirst house = new FoundFirst();
         check.no("sure(56, 56)", house.sure(56, 56));
         check.no("sure(0, 56)", house.sure(0, 56));
         check.no("sure(0, 64)", house.sure(0, 64));

@@ -14,6 +14,7 @@ final class ImageTermsTest {
             imageTakenTwice(check, like);
             againTwiceFromOneImage(check, like);
             imageOfAnImage(check, like);
+            imageOverAnotherHouse(check, like);
         }
         otherImagesStay(check);
         imagesAreNoPartOfAnImage(check);
@@ -23,7 +24,7 @@ final class ImageTermsTest {
     }
 
     private static void changeMuch(FoundFirst house) {
-        house.renew(1, 99, 999);
+        house.renew(1, 20, 999);
         house.page(2, 33, 3);
         for (int page = 0; page < 3; page++) {
             house.word(page, 0, 9);
@@ -123,6 +124,42 @@ final class ImageTermsTest {
             changeMuch(house);
             house.again(2);
         });
+    }
+
+    /** The image comes back over a house that was filled from nothing with other things. */
+    private static void imageOverAnotherHouse(Check check, House like) {
+        check.promise("27 again: nothing is left of what was there");
+        alike(check, "an image over another house", like, house -> {
+            house.image(1);
+            house.image(0);
+            house.image(2);
+        }, house -> {
+            house.image(1);
+            // On all but a new object image 2 is of a house without pages.
+            house.again(2);
+            fillOtherwise(house);
+            house.again(1);
+            house.image(0);
+            house.image(2);
+        });
+    }
+
+    private static void fillOtherwise(FoundFirst house) {
+        for (int p = 0; p < 9; p++) {
+            house.page(3 - p % 3, 11 * p, 111 * p);
+            Given.words(house, p, 0, 2, 1);
+            Given.words(house, p, 1, 1, 1, 1);
+        }
+        for (int q = 0; q < 4; q++) {
+            house.query(2 + q, false);
+            house.hold(q, q != 1);
+            house.grade(q, 8 - q, 2);
+            house.rule(q, q, 1);
+            house.weight(q, 20 - q);
+            house.keep();
+        }
+        house.mix(0, 3, 2, 0);
+        house.click(5);
     }
 
     private static void otherImagesStay(Check check) {

@@ -92,6 +92,15 @@ final class LastOnesTest {
         check.due("all(false)", 180, house.all(false));
         check.due("worth(11)", 180, house.worth(11));
         check.due("worth(0)", 0, house.worth(0));
+        house.weight(4, 1);
+        check.yes("renew(23, 100, 1000)", house.renew(23, 100, 1000));
+        house.word(23, 0, 63);
+        house.weight(3, 0);
+        check.due("worth(11), page 23 being first", 90, house.worth(11));
+        check.due("step() by query 11", 180, house.step());
+        Given.weightsAre(check, house, 1, 1, 1, 1, 1);
+        check.due("tune(3, 4) by query 11", 180, house.tune(3, 4));
+        Given.weightsAre(check, house, 1, 1, 1, 0, 0);
     }
 
     private static void lastPlace(Check check) {
@@ -184,6 +193,12 @@ final class LastOnesTest {
         }
         for (int i = 0; i < 14; i++) {
             check.yes("room for rule " + i, house.rule(11, i, 1));
+        }
+        check.no("room for no more", house.rule(11, 14, 1));
+        check.yes("renew(22, 0, 0)", house.renew(22, 0, 0));
+        for (int q = 0; q < 12; q += 2) {
+            check.no("there is nothing to take back", house.rule(q, 22, 0));
+            check.yes("room by that", house.rule(q, 23, 2));
         }
         check.no("room for no more", house.rule(11, 14, 1));
     }

@@ -9,7 +9,8 @@ import java.util.function.Supplier;
  */
 final class Looks {
     private static final List<Function<FoundFirst, List<Integer>>> PARTS = List.of(
-            Looks::orders, Looks::grades, Looks::marks, Looks::weightsAndList, Looks::versions,
+            Looks::orders, house -> ofAllPages(house, 5), house -> ofAllPages(house, 7),
+            house -> ofAllPages(house, 8), Looks::marks, Looks::weightsAndList, Looks::versions,
             Looks::goingOn, Looks::room, Looks::roomForRules,
             house -> image(house, 0), house -> image(house, 1), house -> image(house, 2));
 
@@ -37,21 +38,22 @@ final class Looks {
         return seen;
     }
 
-    private static List<Integer> grades(FoundFirst house) {
+    private static List<Integer> ofAllPages(FoundFirst house, int what) {
         List<Integer> seen = new ArrayList<>();
         for (int q = 0; q < 12; q++) {
             for (int p = 0; p < 24; p++) {
-                seen.add(house.why(q, p, 8));
+                seen.add(house.why(q, p, what));
             }
         }
         return seen;
     }
 
+    /** Each mark by itself, of the pages and queries that all houses have; of others by their score. */
     private static List<Integer> marks(FoundFirst house) {
         List<Integer> seen = new ArrayList<>();
         for (int q = 0; q < 4; q++) {
             for (int p = 0; p < 9; p++) {
-                for (int what = 0; what < 8; what++) {
+                for (int what = 0; what < 5; what++) {
                     seen.add(house.why(q, p, what));
                 }
             }

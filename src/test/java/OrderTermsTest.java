@@ -18,6 +18,7 @@ final class OrderTermsTest {
         roomForAnotherRule(check);
         pinnedAgainAmongTwenty(check);
         gradesAtFirst(check);
+        scoreOfPinnedAndSunkOnes(check);
         worthOfTheFirstFive(check);
         worthOfFewerThanFive(check);
         worthInAll(check);
@@ -253,6 +254,26 @@ final class OrderTermsTest {
                 }
             }
         }
+    }
+
+    private static void scoreOfPinnedAndSunkOnes(Check check) {
+        check.promise("12 why: 5: SCORE, of one PINNED, SUNK or late, too");
+        FoundFirst house = Given.pagesByAge(new int[] {0, 0, 0, 0, 0}, new int[] {10, 20, 30, 40, 50});
+        house.rule(0, 0, 1);
+        house.rule(0, 4, 1);
+        house.rule(0, 1, 2);
+        house.rule(0, 2, 2);
+        for (int weight = 0; weight <= 20; weight += 4) {
+            house.weight(3, weight);
+            for (int p = 0; p < 5; p++) {
+                check.due("score of " + p, 1 + weight * (9 - p), house.why(0, p, 5));
+            }
+        }
+        house.rule(0, 2, 0);
+        house.rule(0, 1, 0);
+        house.rule(0, 0, 0);
+        check.due("late", 3, house.why(0, 3, 7));
+        check.due("its score", 1 + 20 * 6, house.why(0, 3, 5));
     }
 
     private static void worthOfTheFirstFive(Check check) {

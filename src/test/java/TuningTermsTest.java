@@ -10,10 +10,13 @@ final class TuningTermsTest {
         leastFirstThenLeastSecond(check);
         onlyTheLastPairIsEnough(check);
         onlyTheFirstPairIsEnough(check);
+        firstPairsThatAreEnough(check);
         noPairIsEnough(check);
         othersAsTheyAre(check);
         tunedAsByGoingThroughAll(check);
+        tunedByAllQueries(check);
         nothingToTune(check);
+        stepOfEachMark(check);
         stepOfTheLeastMark(check);
         stepOfTheMostWorth(check);
         stepOfOneLessFirst(check);
@@ -97,6 +100,16 @@ final class TuningTermsTest {
         tuned(check, house, 1, 0, 180, 0, 0, 3, 0, 0);
     }
 
+    private static void firstPairsThatAreEnough(Check check) {
+        FoundFirst house = fieldsAgainstTheRest(PAGE_1);
+        weigh(house, 20, 20, 1, 0, 0);
+        tuned(check, house, 0, 1, 180, 0, 1, 1, 0, 0);
+        weigh(house, 20, 20, 1, 0, 0);
+        tuned(check, house, 1, 0, 180, 1, 0, 1, 0, 0);
+        weigh(house, 0, 0, 1, 0, 20);
+        tuned(check, house, 0, 1, 180, 1, 20, 1, 0, 20);
+    }
+
     private static void noPairIsEnough(Check check) {
         FoundFirst house = fieldsAgainstTheRest(PAGE_1);
         weigh(house, 7, 8, 1, 20, 20);
@@ -156,6 +169,32 @@ final class TuningTermsTest {
         check.due("now(" + b + ")", second, house.now(b));
     }
 
+    /** The first queries gain by seen, the others by fresh; all count that are not held out. */
+    private static void tunedByAllQueries(Check check) {
+        for (int forSeen = 0; forSeen <= 12; forSeen++) {
+            FoundFirst house = Given.freshAgainstSeen();
+            for (int q = 0; q < 12; q++) {
+                if (q > 0) {
+                    house.query(1, false);
+                }
+                house.grade(q, 0, q < forSeen ? 0 : 2);
+                house.grade(q, 1, q < forSeen ? 2 : 0);
+            }
+            boolean seenFirst = forSeen > 6;
+            int worth = 120 * Math.max(forSeen, 12 - forSeen) + 60 * Math.min(forSeen, 12 - forSeen);
+            tuned(check, house, 3, 4, worth, 1, 1, 1, 0, seenFirst ? 1 : 0);
+            house.weight(3, 1);
+            house.weight(4, seenFirst ? 2 : 3);
+            check.due(forSeen + " for seen, step()", forSeen == 6 ? -1 : worth, house.step());
+            int fresh = seenFirst ? 0 : forSeen == 6 ? 1 : 2;
+            Given.weightsAre(check, house, 1, 1, 1, fresh, seenFirst ? 2 : 3);
+            for (int q = 0; q < forSeen; q++) {
+                house.hold(q, true);
+            }
+            tuned(check, house, 4, 3, 120 * (12 - forSeen), 1, 1, 1, 0, 0);
+        }
+    }
+
     private static void nothingToTune(Check check) {
         check.promise("15 tune: nothing is worth anything");
         FoundFirst empty = new FoundFirst();
@@ -168,6 +207,41 @@ final class TuningTermsTest {
         FoundFirst without = fieldsAgainstTheRest(PAGE_1);
         without.grade(0, PAGE_1, 0);
         tuned(check, without, 3, 4, 0, 1, 1, 1, 0, 0);
+    }
+
+    /** Page 1 has more of this mark than page 0 and is its like in all others. */
+    private static FoundFirst aheadByOneMark(int mark, int graded) {
+        FoundFirst house = new FoundFirst();
+        house.page(0, 100, 0);
+        house.page(0, mark == 3 ? 90 : 100, mark == 4 ? 1 : 0);
+        house.query(14, false);
+        int[][] titles = {{1, 2}, {1, 2, 3}, {1, 2, 3}, {1, 2, 3}, {1, 2, 3}};
+        int[][] bodies = {{3}, {1}, {1, 9, 2, 3}, {1}, {1}};
+        Given.words(house, 0, 0, titles[mark]);
+        Given.words(house, 0, 1, bodies[mark]);
+        Given.words(house, 1, 0, 1, 2, 3);
+        Given.words(house, 1, 1, mark == 1 ? new int[] {1, 2} : mark == 2 ? new int[] {1, 2, 3} : bodies[mark]);
+        house.grade(0, graded, 3);
+        return house;
+    }
+
+    private static void stepOfEachMark(Check check) {
+        check.promise("Terms 3: a STEP: of all changes of one WEIGHT by one");
+        for (int mark = 0; mark < 5; mark++) {
+            for (int graded = 0; graded < 2; graded++) {
+                FoundFirst house = aheadByOneMark(mark, graded);
+                for (int m = 0; m < 5; m++) {
+                    int more = m == mark ? 1 : 0;
+                    check.due("mark " + m, house.why(0, 0, m) + more, house.why(0, 1, m));
+                    house.weight(m, m == mark ? 1 - graded : 7);
+                }
+                int[] values = {7, 7, 7, 7, 7};
+                values[mark] = graded;
+                stepped(check, house, 180, values);
+                check.none("no further one", house.step());
+                Given.weightsAre(check, house, values);
+            }
+        }
     }
 
     private static void stepOfTheLeastMark(Check check) {

@@ -104,6 +104,13 @@ final class FullHouseTest {
                 check.due("mixed(" + k + ", 1)", model.mixed(k, 1), house.mixed(k, 1));
             }
         }
+        check.due("mix(11, 28, 29, 1)", model.mix(11, 28, 29, 1), house.mix(11, 28, 29, 1));
+        for (int i = 0; i < 56; i++) {
+            check.due("click(" + i % 5 + ")", model.click(i % 5), house.click(i % 5));
+        }
+        for (int what = 0; what < 4; what++) {
+            check.due("trial(" + what + ")", model.trial(what), house.trial(what));
+        }
     }
 
     private void renewAndReturn(int query) {

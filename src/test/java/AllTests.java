@@ -1,4 +1,4 @@
-/** Runs every test of the project; the first argument is the path of the class's source. */
+/** Runs every test of the project; the arguments are the paths of the class's source and of README.md. */
 public final class AllTests {
     public static void main(String[] args) throws Exception {
         Check check = new Check();
@@ -15,9 +15,12 @@ public final class AllTests {
         ImageTermsTest.run(check);
         LastOnesTest.run(check);
         RefusalsTest.run(check);
+        TogetherTest.run(check);
+        LeftBehindTest.run(check);
         FullHouseTest.run(check);
         RandomRunsTest.run(check);
         LanguageTest.run(check, args.length > 0 ? args[0] : "src/main/java/FoundFirst.java");
+        ReadmeTest.run(check, args.length > 1 ? args[1] : "README.md");
         System.out.println("answers: " + check.passed() + " as due, " + check.failed() + " not");
         if (check.failed() != 0) {
             System.exit(1);

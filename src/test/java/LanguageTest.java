@@ -64,7 +64,7 @@ final class LanguageTest {
                 && Modifier.isPublic(constructors[0].getModifiers()) && constructors[0].getParameterCount() == 0);
     }
 
-    private static String textOf(Method method) {
+    static String textOf(Method method) {
         String parameters = Arrays.toString(method.getParameterTypes());
         return method.getReturnType().getName() + " " + method.getName() + "("
                 + parameters.substring(1, parameters.length() - 1) + ")";

@@ -11,7 +11,7 @@ final class Looks {
     private static final List<Function<FoundFirst, List<Integer>>> PARTS = List.of(
             Looks::orders, house -> ofAllPages(house, 5), house -> ofAllPages(house, 7),
             house -> ofAllPages(house, 8), Looks::marks, Looks::weightsAndList, Looks::versions,
-            Looks::goingOn, Looks::room, Looks::roomForRules,
+            Looks::goingOn, Looks::room, Looks::rules, Looks::roomForRules,
             house -> image(house, 0), house -> image(house, 1), house -> image(house, 2));
 
     private Looks() {
@@ -107,6 +107,17 @@ final class Looks {
         for (int q = 0; q < 12; q++) {
             seen.add(house.finds(q));
             seen.add(house.hold(q, true) ? 1 : 0);
+        }
+        return seen;
+    }
+
+    /** Rules of pages that are no finds, too, which nothing else shows. */
+    private static List<Integer> rules(FoundFirst house) {
+        List<Integer> seen = new ArrayList<>();
+        for (int q = 0; q < 12; q++) {
+            for (int p = 0; p < 24; p++) {
+                seen.add(house.rule(q, p, 0) ? 1 : 0);
+            }
         }
         return seen;
     }
